@@ -1,0 +1,147 @@
+import java.util.Random;
+
+/** Runs of 512 mixed calls, the same ones every time, whose answers must be the model's. */
+public final class ModelTest {
+  private static final int RUNS = 400;
+  private static final int CALLS = 512;
+  private static final String[] WORDS = {"and", "and", "and", " and ", " ", "  ", ",", ", ", "van",
+    "de", "Li", "LI", "L\u00ed", "Lis", "Ann", "Abe", "Bob", "A", "a", "B", "\u00dfx", "\u00dex",
+    "\u00ff", "Z.", "1999", "1998", "99", "+"};
+  private static final int[] ODD_NUMBERS = {-1, -2, 24, 60, 8, Integer.MIN_VALUE, Integer.MAX_VALUE};
+
+  private final Random random;
+  private final CiteLists x = new CiteLists();
+  private final Model model = new Model();
+  private final int entries;
+  private int calls;
+
+  private ModelTest(int seed) {
+    random = new Random(seed);
+    entries = 1 + random.nextInt(seed % 3 == 0 ? 24 : 6);
+  }
+
+  /** One call on both; what it answers or throws is compared. */
+  private interface Call {
+    int make(boolean onModel);
+  }
+
+  private static String answer(Call call, boolean onModel) {
+    try {
+      return Integer.toString(call.make(onModel));
+    } catch (RuntimeException e) {
+      return "throws." + e.getClass().getSimpleName();
+    }
+  }
+
+  public static void main(String[] args) {
+    Check check = new Check();
+    for (int seed = 0; seed < RUNS; seed++) {
+      new ModelTest(seed).compare(check, seed);
+    }
+    check.end("ModelTest");
+  }
+
+  private void compare(Check check, int seed) {
+    while (calls < CALLS) {
+      step(check, "run " + seed + ", call " + calls);
+    }
+  }
+
+  private void due(Check check, String what, Call call) {
+    calls++;
+    check.due(what, answer(call, true), answer(call, false));
+  }
+
+  private int number(int below) {
+    return random.nextInt(40) == 0 ? ODD_NUMBERS[random.nextInt(ODD_NUMBERS.length)]
+        : random.nextInt(below);
+  }
+
+  private int fieldName() {
+    return random.nextInt(3) == 0 ? Check.AUTHOR : number(8);
+  }
+
+  private void step(Check check, String what) {
+    int entry = number(entries);
+    int other = number(entries);
+    int some = number(4);
+    int wide = random.nextInt(4) == 0 ? -1 : number(26);
+    int choice = random.nextInt(100);
+    if (calls < entries || choice == 0 && entries == 24) {
+      int kind = number(6);
+      due(check, what + " entry", m -> m ? model.entry(kind) : x.entry(kind));
+    } else if (choice < 55) {
+      addWord(check, what, entry, choice < 10);
+    } else if (choice < 65) {
+      due(check, what + " cite", m -> m ? model.cite(entry) : x.cite(entry));
+    } else if (choice < 70) {
+      due(check, what + " cross", m -> m ? model.cross(entry, other) : x.cross(entry, other));
+    } else if (choice < 75) {
+      int sort = number(3);
+      int label = number(3);
+      due(check, what + " style", m -> m ? model.style(sort, label) : x.style(sort, label));
+    } else if (choice < 83) {
+      due(check, what + " run", m -> m ? model.run() : x.run());
+      tellAll(check, what);
+    } else if (choice < 89) {
+      due(check, what + " initials",
+          m -> m ? model.initials(entry, some, wide) : x.initials(entry, some, wide));
+    } else if (choice < 90) {
+      due(check, what + " row", m -> m ? model.row(wide) : x.row(wide));
+    } else if (choice < 91) {
+      due(check, what + " letter", m -> m ? model.letter(wide) : x.letter(wide));
+    } else if (choice < 92) {
+      due(check, what + " missing", m -> m ? model.missing(wide, some) : x.missing(wide, some));
+    } else if (choice < 94) {
+      due(check, what + " twice", m -> m ? model.twice(wide) : x.twice(wide));
+    } else if (choice < 96) {
+      due(check, what + " at", m -> m ? model.at(wide) : x.at(wide));
+    } else {
+      due(check, what + " print", m -> m ? model.print(wide) : x.print(wide));
+    }
+  }
+
+  private void addWord(Check check, String what, int entry, boolean toKey) {
+    String word = WORDS[random.nextInt(WORDS.length)];
+    if (word.length() < 4 && random.nextBoolean()) {
+      word += " ";
+    }
+    int odd = random.nextInt(60) == 0 ? random.nextInt() : 0;
+    int c = odd != 0 ? odd : Check.bytes(word.substring(0, Math.min(4, word.length())));
+    int name = fieldName();
+    due(check, what + (toKey ? " key" : " field"), m -> {
+      if (toKey && m) {
+        model.key(entry, c);
+      } else if (toKey) {
+        x.key(entry, c);
+      } else if (m) {
+        model.field(entry, name, c);
+      } else {
+        x.field(entry, name, c);
+      }
+      return 0;
+    });
+  }
+
+  /** All that the run tells; these calls are not counted: what they leave is what print leaves. */
+  private void tellAll(Check check, String what) {
+    int rows = model.run();
+    for (int i = -1; i < rows; i++) {
+      int length = model.print(i);
+      check.due(what + " length of row " + i, length, x.print(i));
+      for (int j = 0; j < length; j++) {
+        check.due(what + " row " + i + " at " + j, model.at(j), x.at(j));
+      }
+      if (i >= 0) {
+        check.due(what + " row " + i, model.row(i), x.row(i));
+        check.due(what + " letter " + i, model.letter(i), x.letter(i));
+      }
+    }
+    int missing = model.missing(-1, 0);
+    check.due(what + " missing", missing, x.missing(-1, 0));
+    for (int i = 0; i < missing; i++) {
+      check.due(what + " missing entry " + i, model.missing(i, 0), x.missing(i, 0));
+      check.due(what + " missing field " + i, model.missing(i, 1), x.missing(i, 1));
+    }
+  }
+}
