@@ -691,7 +691,7 @@ public final class CiteLists {
     }
 
     void addPerson(int i, Text to) {
-      addName(i, to);
+      addWords(persons[i].particlesFrom, persons[i].nameTo, to);
       if (hasGiven(i)) {
         to.addWritten(", ");
         addInitials(i, to);

@@ -9,6 +9,7 @@ public final class RunsTest {
     orderOfSort();
     foldedOrder();
     alikeOnesStay();
+    orderOfLaterRuns();
     shortLabels();
     longLabels();
     initialsInLabels();
@@ -86,6 +87,10 @@ public final class RunsTest {
     check.due("a blank before letters", "1 0", sorted(1, author("Ab!, C"), author("Ab A, C")));
     check.due("blanks and commas do not count", "0 1",
         sorted(1, author("A   B , C,,D"), author("A B, C D")));
+    check.due("a given's beginning before any particle", "1 0",
+        sorted(1, author("Berg, Bc"), author("zu Berg, B")));
+    check.due("no particle before any next person", "1 0",
+        sorted(1, author("de Berg, A"), author("Berg, A and Zett")));
     check.due("fewer before no family", "1 0", sorted(1, author("A and , x"), author("A")));
   }
 
@@ -98,6 +103,14 @@ public final class RunsTest {
     check.due("sort 2 no year first", "1 0", sorted(2, of("A", "1", ""), of("B", "", "")));
     check.due("sort 2 by title at last", "1 0", sorted(2, of("A", "1", "b"), of("A", "1", "a")));
     check.due("sort 1 by year before title", "1 0", sorted(1, of("A", "2", "a"), of("A", "1", "b")));
+    check.due("sort 1 fewer before any year", "1 0",
+        sorted(1, of("A and B", "", ""), of("A", "zz", "")));
+    check.due("sort 1 a year's beginning before any title", "1 0",
+        sorted(1, of("A", "10", ""), of("A", "1", "5")));
+    check.due("sort 2 a year's beginning before any person", "1 0",
+        sorted(2, of("A", "1a", ""), of("Z", "1", "")));
+    check.due("sort 2 fewer before any title", "1 0",
+        sorted(2, of("A and B", "1", ""), of("A", "1", "z")));
     CiteLists x = new CiteLists();
     int other = x.entry(1);
     Check.put(x, other, Check.AUTHOR, "Aa");
@@ -127,7 +140,9 @@ public final class RunsTest {
             sorted(1, author(want + "b"), author(c + "a")));
       }
     }
-    check.due("others stay", "1 0", sorted(1, author("{"), author("Z")));
+    check.due("others stay: {", "1 0", sorted(1, author("{"), author("Z")));
+    check.due("others stay: @", "1 0", sorted(1, author("["), author("@")));
+    check.due("others stay: [", "1 0", sorted(1, author("`"), author("[")));
   }
 
   private static void alikeOnesStay() {
@@ -142,6 +157,18 @@ public final class RunsTest {
     check.due("alike ones as they were cited", "2 0 1", Check.rows(x, x.run()));
     x.style(2, 0);
     check.due("alike ones by sort 2", "2 0 1", Check.rows(x, x.run()));
+  }
+
+  private static void orderOfLaterRuns() {
+    CiteLists x = new CiteLists();
+    Check.cited(x, 0, of("A", "2", ""));
+    Check.cited(x, 0, of("B", "1", ""));
+    x.style(1, 0);
+    check.due("first by persons", "0 1", Check.rows(x, x.run()));
+    x.style(2, 0);
+    check.due("then by years", "1 0", Check.rows(x, x.run()));
+    x.style(0, 0);
+    check.due("then as they were cited", "0 1", Check.rows(x, x.run()));
   }
 
   private static String labelOf(int label, String key, String author, String year) {
@@ -203,10 +230,16 @@ public final class RunsTest {
     check.due("before more", "A. Smith et al.", firstLabel("Smith, A and X and Y", "Smith, B"));
     check.due("no families are the same", "A.  and B", firstLabel(", A and B", ", C"));
     check.due("a row without persons", "Smith", firstLabel("Smith, A", ""));
+    check.due("no family and no persons are not the same", " and B", firstLabel(", A and B", ""));
     CiteLists x = new CiteLists();
     Check.cited(x, 0, Check.AUTHOR, "Smith, A");
     Check.put(x, x.entry(0), Check.AUTHOR, "Smith, B");
+    Check.put(x, x.entry(0), Check.AUTHOR, "Smith, A");
     check.due("rows only", "Smith", Check.label(x, 2, 0));
+    x.cite(2);
+    check.due("the same initials after a run", "Smitha", Check.label(x, 2, 0));
+    x.cite(1);
+    check.due("other initials after two runs", "A. Smitha", Check.label(x, 2, 0));
   }
 
   private static void letters() {
