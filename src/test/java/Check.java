@@ -16,16 +16,22 @@ final class Check {
   static final String UNSUPPORTED = "UnsupportedOperationException";
 
   private int wrong;
+  private String sentence = "";
 
   /** A call of the face; what it answers is looked at by its caller. */
   interface Call {
     void make();
   }
 
+  /** The document's words that the checks behind this call hold. */
+  void sentence(String words) {
+    sentence = "\"" + words + "\": ";
+  }
+
   void due(String what, Object want, Object got) {
     if (!want.equals(got)) {
       wrong++;
-      System.out.println(what + " answered " + got + ", due is " + want);
+      System.out.println(sentence + what + " answered " + got + ", due is " + want);
     }
   }
 

@@ -167,6 +167,10 @@ final class Model {
     return charOf(printed, i);
   }
 
+  int printedLength() {
+    return printed.length();
+  }
+
   int twice(int i) {
     List<Integer> found = new ArrayList<>();
     for (int entry = 0; entry < items.size(); entry++) {
