@@ -91,6 +91,25 @@ final class Check {
     return text.toString();
   }
 
+  /** An object with all that was called on it so far. */
+  interface Made {
+    CiteLists make();
+  }
+
+  /** A text too long to be read within the 512 calls of one object. */
+  static String longText(Made made, int row) {
+    StringBuilder text = new StringBuilder();
+    int length = made.make().print(row);
+    while (text.length() < length) {
+      CiteLists x = made.make();
+      x.print(row);
+      for (int i = 0; i < 200 && text.length() < length; i++) {
+        text.append((char) x.at(text.length()));
+      }
+    }
+    return text.toString();
+  }
+
   static String printed(CiteLists x, int i) {
     return readPrinted(x, x.print(i));
   }

@@ -78,7 +78,7 @@ public final class EntriesTest {
     x.entry(4);
     x.cite(0);
     String most = "0123456789".repeat(8);
-    for (int name = 0; name < 8; name++) {
+    for (int name : new int[] {Check.AUTHOR, Check.TITLE, Check.YEAR, Check.NOTE}) {
       int own = name;
       Check.put(x, 0, name, most.substring(0, 78));
       check.dueThrows("field of 81", Check.UNSUPPORTED, () -> x.field(0, own, Check.bytes("xyz")));

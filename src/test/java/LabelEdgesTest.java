@@ -156,6 +156,18 @@ public final class LabelEdgesTest {
         check.due("row " + row + " by sort " + sort, 23 - row, x.row(row));
       }
     }
+    CiteLists y = new CiteLists();
+    y.cite(y.entry(4));
+    y.cite(y.entry(4));
+    Check.put(y, y.entry(4), Check.YEAR, "1999");
+    y.entry(4);
+    for (int sort = 1; sort <= 2; sort++) {
+      y.style(sort, 0);
+      y.cross(0, 2);
+      check.due("not alike by sort " + sort, "1 0", Check.rows(y, y.run()));
+      y.cross(0, 3);
+      check.due("alike since by sort " + sort, "0 1", Check.rows(y, y.run()));
+    }
   }
 
   private static void rowNumbers() {

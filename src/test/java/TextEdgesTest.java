@@ -63,11 +63,11 @@ public final class TextEdgesTest {
 
   private static void lettersInBrackets() {
     check.sentence("letter (a for 1, b for 2, ..)");
-    CiteLists x = new CiteLists();
-    for (int i = 0; i < 24; i++) {
-      Check.cited(x, 4, Check.AUTHOR, "Be");
-    }
     for (int label = 1; label <= 2; label++) {
+      CiteLists x = new CiteLists();
+      for (int i = 0; i < 24; i++) {
+        Check.cited(x, 4, Check.AUTHOR, "Be");
+      }
       x.style(0, label);
       x.run();
       for (int i = 0; i < 24; i++) {
@@ -171,23 +171,26 @@ public final class TextEdgesTest {
   private static void longestTexts() {
     check.sentence("UnsupportedOperationException when it would have more than 80");
     String t = "t".repeat(80);
-    String given = "," + "g ".repeat(39) + "g";
     String initials = "g. ".repeat(40).trim();
-    CiteLists x = new CiteLists();
-    for (int i = 0; i < 24; i++) {
-      Check.cited(x, 2, Check.AUTHOR, i == 23 ? ",a" : given, Check.TITLE, t, Check.YEAR, t,
-          Check.BOOKTITLE, t, Check.PAGES, t);
-    }
-    x.style(0, 2);
-    x.run();
-    String pieces = ". " + t + ". In: " + t + ", pp. " + t + ". " + t + ".";
-    check.due("the longest row", "(" + initials + "  " + t + "w) , " + initials + pieces,
-        Check.printed(x, 22));
+    String pieces = ") , " + initials + ". " + t + ". In: " + t + ", pp. " + t + ". " + t + ".";
+    check.due("the longest row", "(" + initials + "  " + t + "a" + pieces,
+        Check.longText(() -> longest(2), 0));
+    check.due("its label 1", "[tta" + pieces.replace(')', ']'), Check.longText(() -> longest(1), 0));
     String name = "n".repeat(80);
     check.due("the longest name", "[1] " + name + ".", persons(name));
-    x.style(2, 1);
+  }
+
+  /** Row 0 has the longest text: row 1 brings its letter, and row 2 its initials. */
+  private static CiteLists longest(int label) {
+    CiteLists x = new CiteLists();
+    String t = "t".repeat(80);
+    Check.cited(x, 2, Check.AUTHOR, "," + "g ".repeat(39) + "g", Check.TITLE, t, Check.YEAR, t,
+        Check.BOOKTITLE, t, Check.PAGES, t);
+    x.cross(Check.cited(x, 2), 0);
+    Check.cited(x, 2, Check.AUTHOR, ",a");
+    x.style(0, label);
     x.run();
-    check.due("its label 1", "[ttx] , " + initials + pieces, Check.printed(x, 23));
+    return x;
   }
 
   private static void head() {
