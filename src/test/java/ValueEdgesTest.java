@@ -164,8 +164,10 @@ public final class ValueEdgesTest {
     check.sentence("THE VALUE of a field");
     CiteLists x = chain(4, 2);
     Check.putKey(x, 1, "key");
+    x.style(0, 1);
+    check.due("keys are not crossed", "[]", text(x));
     x.style(0, 2);
-    check.due("keys are not crossed", "()", text(x));
+    check.due("keys are not crossed in long", "()", text(x));
     check.due("nor kinds", "0:1", Check.missing(x));
   }
 
